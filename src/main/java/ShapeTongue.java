@@ -897,8 +897,9 @@ public final class ShapeTongue {
             } else if (edge && b == VERB && c == VERB) {
                 replace(1, 2, null, limited(new Verb(HOOK, verbAt(1), verbAt(2), null, null)));
             } else if (a == NAME && b == ASSIGN && (c == NOUN || c == VERB)) {
-                give(codeAt(0), gridAt(2), verbAt(2));
-                replace(0, 3, gridAt(2), verbAt(2));
+                Grid kept = c == NOUN ? heap.keep(gridAt(2)) : null;
+                give(codeAt(0), kept, verbAt(2));
+                replace(0, 3, kept, verbAt(2));
             } else if (a == OPEN && second && c == CLOSE) {
                 replace(0, 3, gridAt(1), verbAt(1));
             } else {
@@ -993,7 +994,7 @@ public final class ShapeTongue {
                 nameTexts[at] = Arrays.copyOfRange(text, from, from + many);
                 names++;
             }
-            nameGrids[at] = grid == null ? null : heap.keep(grid);
+            nameGrids[at] = grid;
             nameVerbs[at] = verb;
         }
 
@@ -1041,7 +1042,10 @@ public final class ShapeTongue {
             boolean alone = x == null;
             switch (v.kind) {
                 case PLAIN:
-                    return plain(v.sign, x, y);
+                    if (v.sign <= ONE_LESS) {
+                        return alone ? atoms.alone(v.sign, y) : atoms.both(v.sign, x, y);
+                    }
+                    return alone ? items.alone(v.sign, y) : items.both(v.sign, x, y);
                 case INSERT:
                     return alone ? insert(v.f, y, depth)
                             : overCells(v.f, x, v.f.tableFrame(x), y, 0, depth);
@@ -1080,13 +1084,6 @@ public final class ShapeTongue {
             if (noSuchUse) {
                 heap.fail(ERROR_USE);
             }
-        }
-
-        private Grid plain(int sign, Grid x, Grid y) {
-            if (sign <= ONE_LESS) {
-                return x == null ? atoms.alone(sign, y) : atoms.both(sign, x, y);
-            }
-            return x == null ? items.alone(sign, y) : items.both(sign, x, y);
         }
 
         /** u between y's items. */
@@ -1359,7 +1356,9 @@ public final class ShapeTongue {
 
     /** The verbs that work on the whole. */
     private static final class Items {
-        private static final int ZEROS = -1;
+        private static final int NOWHERE = -1;
+        /** So few cells are found sooner without sorting what they are sought in. */
+        private static final int FEW = 12;
 
         private final Heap heap;
         private final int[] places = new int[MOST_ATOMS];
@@ -1397,14 +1396,14 @@ public final class ShapeTongue {
                 case SHAPE: return reshape(x, y);
                 case COUNT: return copies(x, asList(y));
                 case JOIN: return join(x, y);
-                case PLACE: return placesOf(x, y);
+                case PLACE: return search(asList(x), y, false);
                 case TAKE: return take(onlyAtom(x), asList(y));
                 case DROP: return without(onlyAtom(x), y);
                 case FROM: return from(x, asList(y));
                 case TURN: return turned(onlyAtom(x), asList(y));
                 case UP: return sortBy(asList(x), asList(y), false);
                 case DOWN: return sortBy(asList(x), asList(y), true);
-                case MEMBER: return members(x, y);
+                case MEMBER: return search(asList(y), x, true);
                 case LEFT: return x;
                 case RIGHT: return y;
                 default:
@@ -1489,7 +1488,7 @@ public final class ShapeTongue {
             int size = y.itemSize();
             for (int k = 0; k < n; k++) {
                 int to = r.at + k * size;
-                if (which[k] == ZEROS) {
+                if (which[k] == NOWHERE) {
                     Arrays.fill(r.store, to, to + size, 0);
                 } else {
                     System.arraycopy(y.store, y.at + which[k] * size, r.store, to, size);
@@ -1596,7 +1595,7 @@ public final class ShapeTongue {
             int shift = x < 0 ? n - many : 0;
             for (int k = 0; k < many; k++) {
                 int from = k + shift;
-                places[k] = from >= 0 && from < n ? from : ZEROS;
+                places[k] = from >= 0 && from < n ? from : NOWHERE;
             }
             return fill(r, y, places, many);
         }
@@ -1710,12 +1709,12 @@ public final class ShapeTongue {
             }
             for (int k = 1; k < n; k++) {
                 if (compare(y, order[k - 1] * size, y, order[k] * size, size) == 0) {
-                    places[order[k]] = ZEROS;
+                    places[order[k]] = NOWHERE;
                 }
             }
             int many = 0;
             for (int k = 0; k < n; k++) {
-                if (places[k] != ZEROS) {
+                if (places[k] != NOWHERE) {
                     places[many] = k;
                     many++;
                 }
@@ -1723,37 +1722,46 @@ public final class ShapeTongue {
             return fill(withItems(y, many), y, places, many);
         }
 
-        private Grid placesOf(Grid x, Grid y) {
-            int none = x.items();
-            Grid r = search(asList(x), y);
-            for (int k = 0; k < r.size; k++) {
-                r.store[r.at + k] = places[k] < 0 ? none : places[k];
-            }
-            return r;
-        }
-
-        private Grid members(Grid x, Grid y) {
-            Grid r = search(asList(y), x);
-            for (int k = 0; k < r.size; k++) {
-                r.store[r.at + k] = places[k] < 0 ? 0 : 1;
-            }
-            return r;
-        }
-
-        /** Finds each cell of y among x's items: the least places, below 0 where there is none. */
-        private Grid search(Grid x, Grid y) {
+        /**
+         * Seeks each cell of y among x's items: the least place, or how many items there are if none
+         * is it; or, if only asked, 1 or 0.
+         */
+        private Grid search(Grid x, Grid y, boolean asked) {
             int frame = y.rank - (x.rank - 1);
+            int none = asked ? 0 : x.axes[0];
             Grid r = heap.blank();
             r.beFrame(y, Math.max(frame, 0));
             heap.room(r);
-            Arrays.fill(places, 0, r.size, -1);
-            if (frame < 0 || !y.sameFrom(frame, x, 1)) {
-                return r;
+            Arrays.fill(places, 0, r.size, NOWHERE);
+            if (frame >= 0 && y.sameFrom(frame, x, 1)) {
+                if (r.size > FEW) {
+                    searchSorted(x, y, r.size);
+                } else {
+                    searchAll(x, y, r.size);
+                }
             }
+            for (int k = 0; k < r.size; k++) {
+                r.store[r.at + k] = places[k] == NOWHERE ? none : asked ? 1 : places[k];
+            }
+            return r;
+        }
+
+        private void searchAll(Grid x, Grid y, int cells) {
+            int n = x.axes[0];
+            int size = x.itemSize();
+            for (int k = 0; k < cells; k++) {
+                for (int j = 0; j < n && places[k] == NOWHERE; j++) {
+                    places[k] = compare(x, j * size, y, k * size, size) == 0 ? j : NOWHERE;
+                }
+            }
+        }
+
+        /** Of items alike, the least place stands first in their order. */
+        private void searchSorted(Grid x, Grid y, int cells) {
             int n = x.axes[0];
             int size = x.itemSize();
             int[] order = grade(x, false);
-            for (int k = 0; k < r.size; k++) {
+            for (int k = 0; k < cells; k++) {
                 int low = 0;
                 int high = n;
                 for (int step = 0; step < 32 && low < high; step++) {
@@ -1766,7 +1774,6 @@ public final class ShapeTongue {
                     places[k] = order[low];
                 }
             }
-            return r;
         }
 
         /** The places of y's items in order, those alike as they stand: a sort by merging. */
@@ -1821,6 +1828,7 @@ public final class ShapeTongue {
         private static final int STOPPED = 1;
         private static final int FAULT = 2;
         private static final int EBREAK = 0x00100073;
+        private static final int HIGH = 0xfffff000;
 
         final int[] x = new int[32];
         final int[] memory = new int[MEMORY_BYTES / 4];
@@ -1860,40 +1868,42 @@ public final class ShapeTongue {
                 state = FAULT;
                 return;
             }
+            int w = memory[pc >> 2];
+            int rd = w >>> 7 & 31;
             next = pc + 4;
-            if (!run(memory[pc >> 2])) {
-                state = FAULT;
-            } else if (state == RUNS) {
-                pc = next;
+            if (w == EBREAK) {
+                state = STOPPED;
+                return;
             }
+            // Each of these does nothing at all if it answers false.
+            boolean done;
+            switch (w & 127) {
+                case 0x37: done = give(rd, w & HIGH); break;
+                case 0x17: done = give(rd, pc + (w & HIGH)); break;
+                case 0x6f: done = leap(rd, pc + jumpWay(w)); break;
+                case 0x67: done = leapTo(w); break;
+                case 0x63: done = branch(w); break;
+                case 0x03: done = load(w); break;
+                case 0x23: done = store(w); break;
+                case 0x13: done = withNumber(w); break;
+                case 0x33: done = withRegister(w); break;
+                case 0x57: done = vectors.run(w); break;
+                case 0x07: done = vectors.transfer(w, false); break;
+                case 0x27: done = vectors.transfer(w, true); break;
+                default: done = false; break;
+            }
+            state = done ? RUNS : FAULT;
+            pc = done ? next : pc;
         }
 
-        /** Does a word; false, and nothing is done, if it is a fault. */
-        private boolean run(int w) {
-            int rd = w >>> 7 & 31;
-            switch (w & 127) {
-                case 0x37:
-                    put(rd, w & 0xfffff000);
-                    return true;
-                case 0x17:
-                    put(rd, pc + (w & 0xfffff000));
-                    return true;
-                case 0x6f:
-                    return leap(rd, pc + jumpWay(w));
-                case 0x67:
-                    return (w >>> 12 & 7) == 0 && leap(rd, x[w >>> 15 & 31] + (w >> 20) & ~1);
-                case 0x63: return branch(w);
-                case 0x03: return load(w);
-                case 0x23: return store(w);
-                case 0x13: return withNumber(w);
-                case 0x33: return withRegister(w);
-                case 0x57: return vectors.run(w);
-                case 0x07: return vectors.transfer(w, false);
-                case 0x27: return vectors.transfer(w, true);
-                default:
-                    state = w == EBREAK ? STOPPED : state;
-                    return w == EBREAK;
-            }
+        private boolean give(int rd, int value) {
+            put(rd, value);
+            return true;
+        }
+
+        private boolean leapTo(int w) {
+            int aim = x[w >>> 15 & 31] + (w >> 20);
+            return (w >>> 12 & 7) == 0 && leap(w >>> 7 & 31, aim & ~1);
         }
 
         private static int jumpWay(int w) {
@@ -1943,8 +1953,7 @@ public final class ShapeTongue {
                 case 5: bits &= 0xffff; break;
                 default: break;
             }
-            put(w >>> 7 & 31, bits);
-            return true;
+            return give(w >>> 7 & 31, bits);
         }
 
         private boolean store(int w) {
@@ -1968,8 +1977,7 @@ public final class ShapeTongue {
             if ((kind == 1 || kind == 5) && high != 0 && !other) {
                 return false;
             }
-            put(w >>> 7 & 31, basic(kind, other, x[w >>> 15 & 31], b));
-            return true;
+            return give(w >>> 7 & 31, basic(kind, other, x[w >>> 15 & 31], b));
         }
 
         private boolean withRegister(int w) {
@@ -1981,8 +1989,7 @@ public final class ShapeTongue {
             if (high > 1 && !other) {
                 return false;
             }
-            put(w >>> 7 & 31, high == 1 ? multiplied(kind, a, b) : basic(kind, other, a, b));
-            return true;
+            return give(w >>> 7 & 31, high == 1 ? multiplied(kind, a, b) : basic(kind, other, a, b));
         }
 
         /** The words of one funct3; other: the one with bit 30. */
@@ -2778,7 +2785,7 @@ public final class ShapeTongue {
         }
 
         private void skipBlanks() {
-            while (at < end && isBlank(text[at])) {
+            while (at < end && (text[at] == ' ' || text[at] == 9)) {
                 at++;
             }
         }
