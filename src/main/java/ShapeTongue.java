@@ -315,7 +315,7 @@ public final class ShapeTongue {
             System.arraycopy(g.axes, 0, axes, 0, MOST_AXES);
         }
 
-        /** The list of g's atoms from one on, without their memory being copied. */
+        /** A list of so many atoms; where they lie stays. */
         void beList(int n) {
             rank = 1;
             axes[0] = n;
@@ -388,8 +388,9 @@ public final class ShapeTongue {
 
     /** A line's memory, work, error, and the bounds of its numbers. */
     private static final class Heap {
-        // All values of a line are paid by its work, but those that are being put together: one at
-        // each level of a verb. So 64 blocks, of which a quarter at most is lost, are never used up.
+        // A line's work pays for all its values but those that are being put together, of which each
+        // level of a verb has one: fewer than 460000 atoms. A block is left when less than a quarter of
+        // it is free, so 64 blocks are never used up, nor are the headers: a few for each word and level.
         private static final int BLOCK = 16384;
         private static final int BLOCKS = 64;
         private static final int GRIDS = 2000;
