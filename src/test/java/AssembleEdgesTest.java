@@ -12,6 +12,8 @@ public final class AssembleEdgesTest {
         ways();
         orderOfErrors();
         refusedChangesNothing();
+        shorterTexts();
+        jumpForms();
         b.end();
     }
 
@@ -256,6 +258,37 @@ public final class AssembleEdgesTest {
             b.due("look(9) behind it", 0, b.tongue.look(9));
             b.due("state and PC", "0 0", b.tongue.look(6) + " " + b.tongue.look(7));
             b.due("the words stay", 0xc111f0d7, b.tongue.word(0));
+        }
+    }
+
+    /** A text behind a longer one that began like it: nothing of the longer one counts. */
+    private static void shorterTexts() {
+        String[] texts = {"a: add x11,x22,x31", "lw x11,-44(x22)", "jalr x11,x12,-45", "jalr x11,-45(x12)", ".word 1234", "nop:nop",
+            "vadd.vv v11,v12,v13,v0.t", "vsetvli x11,x12,e32,m2,ta,mu", "li x11,-4444", "vid.v v12,v0.t", "vmerge.vim v11,v12,-15,v0",
+            "a: j a", "abc: beqz x12,abc", "nop # x"};
+        for (String text : texts) {
+            for (int k = 0; k < text.length(); k++) {
+                String part = text.substring(0, k);
+                String alone = answer(part);
+                int word = b.tongue.word(0);
+                b.fresh();
+                b.assemble(text);
+                b.tongue.setWord(0, 0);
+                int count = b.assemble(part);
+                b.due("'" + part + "' behind '" + text + "'", alone,
+                        count >= 0 ? "words " + count : "error " + (-1 - count) + " line " + b.tongue.look(9));
+                b.due("its word", word, b.tongue.word(0));
+            }
+        }
+    }
+
+    private static void jumpForms() {
+        for (int n : new int[] {-2048, -1, 0, 1, 2047}) {
+            text("jalr x31,x29," + n + "\njalr x31," + n + "(x29)\njalr x0,x1," + n, "words 3");
+            int word = (n & 0xfff) << 20 | 29 << 15 | 31 << 7 | 0x67;
+            b.due("jalr rd, rs1, n", word, b.tongue.word(0));
+            b.due("jalr rd, n(rs1)", word, b.tongue.word(4));
+            b.due("jalr x0", (n & 0xfff) << 20 | 1 << 15 | 0x67, b.tongue.word(8));
         }
     }
 }

@@ -22,6 +22,7 @@ public final class OperationsTest {
         branches();
         leaps();
         loadsAndStores();
+        partsOfWords();
         b.end();
     }
 
@@ -378,5 +379,37 @@ public final class OperationsTest {
         int word = at & 65532;
         int before = word < 12 ? 0x13 : word == 12 ? b.tongue.word(12) : 0;
         b.due(what + " memory", right && !loads, b.tongue.word(word) != before);
+    }
+
+    /** Bytes and half-words at each place of a word, with a sign and without; stores leave the others. */
+    private static void partsOfWords() {
+        for (int word : new int[] {0x87654321, 0x7f80ff01, -1, 0, 0x00008000, 0x00800080}) {
+            for (int k = 0; k < 4; k++) {
+                part("lb", k, word, (byte) (word >> 8 * k), word);
+                part("lbu", k, word, word >> 8 * k & 0xff, word);
+                part("sb", k, word, 0xa1b2c3d4, word & ~(0xff << 8 * k) | 0xd4 << 8 * k);
+                if (k % 2 == 0) {
+                    part("lh", k, word, (short) (word >> 8 * k), word);
+                    part("lhu", k, word, word >> 8 * k & 0xffff, word);
+                    part("sh", k, word, 0xa1b2c3d4, word & ~(0xffff << 8 * k) | 0xc3d4 << 8 * k);
+                }
+            }
+            part("lw", 0, word, word, word);
+            part("sw", 0, word, 0xa1b2c3d4, 0xa1b2c3d4);
+        }
+    }
+
+    private static void part(String order, int at, int word, int x27, int after) {
+        b.fresh();
+        b.tongue.setRegister(27, 0xa1b2c3d4);
+        b.tongue.setWord(1000, 0x11111111);
+        b.tongue.setWord(1004, word);
+        b.tongue.setWord(1008, 0x22222222);
+        b.assemble(order + " x27," + (1004 + at) + "(x0)");
+        b.tongue.steps(1);
+        String what = order + " at " + at + " of " + Integer.toHexString(word);
+        b.due(what, x27, b.tongue.register(27));
+        b.due(what + ", the word", after, b.tongue.word(1004));
+        b.due(what + ", its neighbours", 0x33333333, b.tongue.word(1000) + b.tongue.word(1008));
     }
 }

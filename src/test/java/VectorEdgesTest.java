@@ -34,6 +34,10 @@ public final class VectorEdgesTest {
                     }
                     wholes();
                 }
+                for (int length : new int[] {0, 1, all - 1, all}) {
+                    vl = length;
+                    transfers();
+                }
             }
         }
         b.end();
@@ -320,5 +324,66 @@ public final class VectorEdgesTest {
             told[i] = -16;
         }
         group("vmv.v.i", told);
+    }
+
+    /**
+     * "an address that is not within the memory (all bytes; of vectors those of active elements), .. or a
+     * vector's address not a multiple of 4", "Each address modulo 2^32"; "of a load or store no element".
+     */
+    private static void transfers() {
+        int[] starts = {0, 1, 2, 3, 4, 65536 - 4 * all, 65537 - 4 * all, 65540 - 4 * all, 65532, 65533, 65534, 65536, -4, -3, Integer.MIN_VALUE,
+            Integer.MAX_VALUE};
+        for (int start : starts) {
+            for (int k = 0; k < 2; k++) {
+                masked = k == 1;
+                transfer("vle32.v v24,(x5)", start, 4, false);
+                transfer("vlse32.v v24,(x5),x4", start, 0, false);
+                transfer("vlse32.v v24,(x5),x4", start, 4, false);
+                transfer("vlse32.v v24,(x5),x4", start, -4, false);
+                transfer("vlse32.v v24,(x5),x4", start, 2, false);
+                transfer("vluxei32.v v24,(x5),v8", start, TIMES_A, false);
+                transfer("vse32.v v24,(x5)", start, 4, true);
+                transfer("vsse32.v v24,(x5),x4", start, 1 << 30, true);
+                transfer("vsse32.v v24,(x5),x4", start, 1, true);
+                transfer("vsoxei32.v v24,(x5),v8", start, TIMES_A, true);
+            }
+        }
+        masked = false;
+    }
+
+    /** One word with x5 the start and x4 the stride: a fault that changes nothing, or all active elements. */
+    private static void transfer(String order, int start, int stride, boolean stores) {
+        boolean indexed = order.contains("ei32");
+        boolean faults = false;
+        int last = -1;
+        for (int i = 0; i < vl; i++) {
+            int at = start + (indexed ? a(i) : stride * i);
+            if (active(i)) {
+                faults |= at < 0 || at > 65532 || at % 4 != 0;
+                last = i;
+            }
+        }
+        b.fresh();
+        b.tongue.vector(wide);
+        for (int k = 0; k < Math.min(wide, 4); k++) {
+            b.tongue.setElement(0, k, mask[k]);
+        }
+        b.tongue.setRegister(2, vl);
+        b.tongue.setRegister(4, stride);
+        b.tongue.setRegister(5, start);
+        b.tongue.setRegister(6, 4096);
+        String text = "vsetvli x1,x0,e32,m" + lmul + "\nvid.v v24\nli x3," + TIMES_OLD + "\nvmul.vx v24,v24,x3\nvid.v v8\nli x3," + TIMES_A
+                + "\nvmul.vx v8,v8,x3\nvadd.vi v8,v8,5\nvsetvli x0,x2,e32,m" + lmul + "\n" + order + (masked ? ",v0.t" : "");
+        b.assemble(text);
+        b.tongue.steps(9);
+        int lastAt = last < 0 || faults ? 0 : start + (indexed ? a(last) : stride * last);
+        int there = b.tongue.word(lastAt);
+        b.due(order + " is a step", 1, b.tongue.steps(1));
+        b.due(when(order) + " from " + start + " by " + stride, faults ? "2 36" : "0 40", b.tongue.look(6) + " " + b.tongue.look(7));
+        if (last >= 0) {
+            int element = b.tongue.element(24 + last / wide, last % wide);
+            b.due(when(order) + ", element", stores || faults ? old(last) : there, element);
+            b.due(when(order) + ", memory", stores && !faults ? old(last) : there, b.tongue.word(lastAt));
+        }
     }
 }
