@@ -13,7 +13,7 @@ public final class TablesTest {
     private static final String MACHINE = ";machine ";
 
     public static void main(String[] args) throws IOException {
-        for (String table : List.of("words", "atoms", "whole", "made", "limits", "machine", "edges")) {
+        for (String table : List.of("words", "atoms", "whole", "made", "limits", "machine", "edges", "second")) {
             b.fresh();
             Path path = Path.of("src/test/tables", table + ".lines");
             for (String row : Files.readAllLines(path, StandardCharsets.ISO_8859_1)) {
