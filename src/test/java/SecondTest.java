@@ -3,8 +3,9 @@ import java.nio.file.Files;
 import java.nio.file.Path;
 
 /**
- * Promises 5 and 6 to 13: programs by chance, with what a second program made of them that was written
- * from the document alone. TablesTest has its lines of arrays.
+ * Promises 5 and 6 to 13: programs by chance, with what a second program made of them. It has
+ * the same author, so it tells slips, not sentences of the document that were read wrongly both times.
+ * TablesTest has its lines of arrays.
  */
 public final class SecondTest {
     private static final Bench b = new Bench("SecondTest");

@@ -1,5 +1,5 @@
 ;; Programs by chance (\n and \t for bytes 10 and 9), => what assemble answers, the error's line, and the words,
-;; as a second program told them that was written from the document alone.
+;; as a second program (in Python, by the same hand) told them.
 vmandn.mm v1, \tv29,v15\t\nb  : blt x10,x18\t,\t _z\nvsoxei32.v \t v21,(\t\tx20  ),v16\nx1:vsrl.vv v16,  v29,v6\nbgeu x5 ,x9,v0\nviota.m \tv2\t ,\t v31,v0.t\n => -3 2
 vmsltu.vx v9\t ,\t v7,x24\nvdiv.vv v16\t\t,v18,v21\nbltu x28,\t\tx23,_z\nvfirst.m x17, v1,v0.t \n\tvmv.x.s  \tx4, \tv13\n\nvmv.v.v v9,v10\nb:vslideua.vx v24,v27,x27\t\t\n # hi\n \tvmaxu.vx v9,v18,x18\t\nvsll.vi v23 ,v8,8\nvle32.v v12,(x29)\t ,\t v0.t => -2 8
 srl x21, x27,x4\t\n\tvsetivli x2 \t,\t12, e32,\tm2\t,tu => 2 0 004ddab3 c1167157
